@@ -1398,7 +1398,8 @@ public final class LetterNames {
         }
 
         int daysFor(Child c, int l) {
-            return Math.max(1, lessonRow[l].days - c.gift);
+            int days = lessonRow[l].days - c.gift;
+            return days < 1 ? 1 : days;
         }
 
         int readySet(Child c, boolean minded) {
@@ -1423,11 +1424,10 @@ public final class LetterNames {
         }
 
         int choose(Child c) {
-            int ready = readySet(c, true);
             int best = NONE;
             boolean bestSaid = false;
             for (int l = 0; l < lessons; l++) {
-                if ((ready & 1 << l) == 0) {
+                if (!lets(c.known, l) || !canPay(c, l)) {
                     continue;
                 }
                 voice.spell(this, c, NONE);

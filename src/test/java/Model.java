@@ -22,7 +22,7 @@ final class Model {
         }
     }
 
-    private static final class Subject {
+    static final class Subject {
         String name;
         char letter;
         int days;
@@ -31,7 +31,7 @@ final class Model {
         List<Integer> needs = new ArrayList<>();
     }
 
-    private static final class Pupil {
+    static final class Pupil {
         String name;
         int gift;
         int purse;
@@ -49,7 +49,7 @@ final class Model {
         }
     }
 
-    private static final class World {
+    static final class World {
         List<String> masters = new ArrayList<>();
         List<Subject> lessons = new ArrayList<>();
         List<Pupil> pupils = new ArrayList<>();
@@ -184,6 +184,14 @@ final class Model {
     private long yes(long value) {
         status = 0;
         return value;
+    }
+
+    World world() {
+        return world;
+    }
+
+    int tapeLength() {
+        return tape.length();
     }
 
     int status() {
