@@ -1089,8 +1089,6 @@ public final class LetterNames {
 
         void begin(long newName) {
             name = newName;
-            gift = 0;
-            purse = 0;
             clock = 0;
             known = 0;
             length = 0;
@@ -1200,8 +1198,8 @@ public final class LetterNames {
             }
         }
 
+        /** MASTERS' NAMES, and whether SOUNDS are told, matter only while a text is read, so they stay behind. */
         void copyFrom(School other) {
-            System.arraycopy(other.masterNames, 0, masterNames, 0, MOST_MASTERS);
             for (int l = 0; l < other.lessons; l++) {
                 lessonRow[l].copyFrom(other.lessonRow[l]);
             }
@@ -1213,7 +1211,6 @@ public final class LetterNames {
             lessons = other.lessons;
             children = other.children;
             sounds = other.sounds;
-            soundsTold = other.soundsTold;
         }
 
         // -- reading
@@ -1901,36 +1898,35 @@ public final class LetterNames {
 
         /** Beside the set it matters of which kind the last LETTERS are, and how many: a state for each. */
         long countSaid(School s) {
+            int most = Math.min(s.sounds, length);
+            int states = 2 * most;
             int sets = 1 << s.lessons;
-            int states = 2 * s.sounds;
             clearSums(sets * states, 0L);
-            spread(s, 0, NONE, 1L);
             long all = 0L;
-            for (int set = 1; set < sets; set++) {
-                for (int state = 0; state < states; state++) {
-                    long found = sums[set * states + state];
-                    if (found == 0L) {
-                        continue;
+            for (int set = 0; set < sets; set++) {
+                for (int state = 0; state < states && Integer.bitCount(set) == length; state++) {
+                    all += sums[set * states + state];
+                }
+                for (int l = 0; l < s.lessons; l++) {
+                    if (comesNext(s, set, l)) {
+                        saySo(set, set | 1 << l, s.lessonRow[l].vowel ? most : 0, most);
                     }
-                    if (Integer.bitCount(set) == length) {
-                        all += found;
-                    }
-                    spread(s, set, state, found);
                 }
             }
             return all;
         }
 
-        private void spread(School s, int set, int state, long found) {
-            for (int l = 0; l < s.lessons; l++) {
-                if (!comesNext(s, set, l)) {
-                    continue;
-                }
-                int begin = s.lessonRow[l].vowel ? s.sounds : 0;
-                boolean same = state >= begin && state < begin + s.sounds;
-                int to = same ? state + 1 : begin;
-                if (to < begin + s.sounds) {
-                    sums[(set | 1 << l) * 2 * s.sounds + to] += found;
+        /** The states of one kind begin at a number; behind the last of them the NAME can't be said. */
+        private void saySo(int from, int to, int begin, int most) {
+            if (from == 0) {
+                sums[to * 2 * most + begin] = 1L;
+                return;
+            }
+            for (int state = 0; state < 2 * most; state++) {
+                boolean same = state >= begin && state < begin + most;
+                int next = same ? state + 1 : begin;
+                if (next < begin + most) {
+                    sums[to * 2 * most + next] += sums[from * 2 * most + state];
                 }
             }
         }

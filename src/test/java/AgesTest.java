@@ -84,6 +84,9 @@ final class AgesTest {
         fault("loop eva;", 2, 5);
         fault("loop 2 stop;", 2, 7);
         fault("when eva;", 2, 5);
+        fault("when ;end;", 2, 5);
+        fault("loop ;end;", 2, 5);
+        fault("learn ;", 2, 6);
         fault("when learn eva one;", 2, 5);
         fault("when long eva 1;", 2, 14);
         fault("when long eva ; 1;", 2, 14);
@@ -198,7 +201,9 @@ final class AgesTest {
         test("says eva", true);
         test("says ida", false);
         test("knows eva one", true);
+        test("knows eva two", true);
         test("knows eva tri", false);
+        test("knows eva qua", false);
         test("knows ida one", false);
     }
 

@@ -149,6 +149,15 @@ final class LearningTest {
         Check.learnAll(y, 0, 0, 2);
         y.lose(0, 0);
         check.taken("what is known is not opened", y, y.opens(0, 0), 1);
+        StringBuilder text = new StringBuilder("lesson a gives a takes 1;");
+        for (int l = 1; l < 12; l++) {
+            text.append("lesson ").append((char) ('a' + l)).append(" gives a takes 1 needs a;");
+        }
+        LetterNames z = Check.of(text + "child z;");
+        check.taken("all the others of twelve", z, z.opens(0, 0), 11);
+        Check.school(z, "");
+        Check.school(z, "lesson a gives a takes 1;child z;");
+        check.taken("lessons of an old school do not count", z, z.opens(0, 0), 0);
     }
 
     private static void choosing() {

@@ -92,7 +92,16 @@ final class MarksTest {
         Check.age(x, "loop 2;when says eva;stop;end;end;");
         x.mark();
         x.back();
-        check.taken("blocks", x, x.live(0), 3);
+        check.taken("blocks", x, x.live(0), 1 + 2);
+        for (String sign : new String[] {"<", ">", "="}) {
+            Check.age(x, "when long eva " + sign + " 0;rest eva 1;end;learn eva two;lose eva 0;");
+            x.mark();
+            Check.age(x, "when says eva;end;pay ida 9;rest ida 9;fate ida;");
+            x.back();
+            check.taken("a test of " + sign, x, x.live(0), sign.equals("=") ? 4 : 3);
+            check.taken("what was learnt", x, x.lived(1), 1);
+            check.taken("what was lost", x, x.lived(2), 1);
+        }
     }
 
     private static void whatStays() {

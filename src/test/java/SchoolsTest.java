@@ -47,6 +47,14 @@ final class SchoolsTest {
         y.feed(0x736f756e, 0x64732035, 0x3b80ff00, 0, 0);
         check.taken("the highest byte first", y, y.school(9), 0);
         check.taken("many(3)", y, y.many(3), 5);
+        Check.feed(y, "sounds 25;");
+        check.refused("a text that ends within a number", y, y.school(8), 10);
+        check.due("fault(0)", y.fault(0), 2);
+        check.due("fault(1)", y.fault(1), 8);
+        Check.feed(y, "soundso");
+        check.refused("a text that ends within a word", y, y.school(6), 10);
+        check.due("fault(0)", y.fault(0), 2);
+        check.due("fault(1)", y.fault(1), 6);
     }
 
     private static void schoolsTaken() {
@@ -94,6 +102,20 @@ final class SchoolsTest {
         check.taken("clocks at 0", x, x.child(0, 2), 0);
         check.taken("purses anew", x, x.child(1, 1), 0);
         check.refused("no age", x, x.live(0), 8);
+        for (int i = 9; i > 6; i--) {
+            Check.school(x, "child a gift 9 purse 9;sounds " + i + ";");
+            x.age(0);
+        }
+        for (int i = 0; i < 2; i++) {
+            Check.school(x, "child a;lesson b gives b takes 1;");
+            check.taken("sounds anew", x, x.many(3), 2);
+            check.taken("gifts anew", x, x.child(0, 0), 0);
+            check.taken("purses anew", x, x.child(0, 1), 0);
+            check.taken("lessons anew", x, x.lesson(0, 4), 0);
+            check.refused("lessons anew", x, x.lesson(0, 3), 8);
+            check.refused("no age", x, x.live(0), 8);
+            Check.learnAll(x, 0, 0);
+        }
     }
 
     private static void fault(String text, int kind, int place) {
@@ -145,6 +167,7 @@ final class SchoolsTest {
         fault("lesson one gives ab takes 1;", 2, 17);
         fault("lesson one gives 5 takes 1;", 2, 17);
         fault("lesson one gives by", 2, 17);
+        fault("lesson one gives takes 5;", 2, 17);
         fault("lesson one gives a costs", 2, 19);
         fault("lesson one gives a takes a", 2, 25);
         fault("lesson one gives a takes 1 one;", 2, 27);

@@ -147,5 +147,8 @@ final class SoundsTest {
         check.taken("behind", x, x.behind(1, 0), 1);
         check.refused("apart", x, x.apart(0, 1), 8);
         check.taken("rhyme", x, x.rhyme(0, 1), 3);
+        x.lose(0, 0);
+        x.lose(1, 0);
+        check.taken("behind at once", x, x.behind(0, 1), 0);
     }
 }
