@@ -25,6 +25,7 @@ final class AgeBoundsTest {
         missed();
         whens();
         loops();
+        withinThree();
         mostSteps();
         mostStepsInBlocks();
         draws();
@@ -126,6 +127,10 @@ final class AgeBoundsTest {
         }
         faulty("no STEP begins with a NAME", "eva", 2, 0);
         faulty("no TEST begins with a NAME", "when eva", 2, 5);
+        faulty("no TEST begins with a NUMBER", "when 1;end;", 2, 5);
+        faulty("no TEST is empty", "when ;end;", 2, 5);
+        faulty("no TEST begins so", "when ?;end;", 1, 5);
+        faulty("the end where a TEST must begin", "when", 2, 4);
         faulty("no STEP is empty", "stop;;", 2, 5);
         faulty("a STEP ends with ;", "stop stop;", 2, 5);
         for (String step : STEPS) {
@@ -370,6 +375,20 @@ final class AgeBoundsTest {
         dry(51, "stop within a loop").age("loop 9;rest oda 1;stop;end;rest oda 9;").is("live(0)", 3).is("child(2, 2)", 1).is("lived(3)", 0);
     }
 
+    private static void withinThree() {
+        String[] begins = {"loop 2;", "when says eva;"};
+        for (int which = 0; which < 8; which++) {
+            String text = begins[which & 1] + begins[which >> 1 & 1] + begins[which >> 2 & 1] + "rest oda 1;end;end;end;";
+            int times = 1;
+            int steps = 0;
+            for (int depth = 0; depth < 3; depth++) {
+                steps += times;
+                times *= (which >> depth & 1) == 0 ? 2 : 1;
+            }
+            dry(51, "a STEP within three: " + text).age(text).is("live(0)", steps + times).is("child(2, 2)", times).is("lived(3)", 0);
+        }
+    }
+
     private static final String ALMOST = "loop 99;rest oda 1;rest oda 1;rest oda 1;end;";
 
     private static void mostSteps() {
@@ -484,6 +503,10 @@ final class AgeBoundsTest {
         rich(52, "8 does not matter").go("school(0)").no("live(0)", 8).is("lived(1)", 1);
         rich(52, "odds() does not matter").go("odds(0, 0, 20)").is("lived(1)", 1).is("lived(0)", 0);
         rich(52, "anew each time").is("live(5)", 3).is("lived(0)", 1).is("lived(1)", 0);
+        Run r = dry(52, "anew each time, behind one of which much is told").age("loop 99;learn oda two;lose oda 0;lose oda 0;end;stop;stop;stop;");
+        lived(r, 299, 99, 99, 99, 0);
+        lived(r.age("loop 99;learn oda two;lose oda 0;lose oda 0;end;loop 3;rest oda 1;end;"), 300, 99, 99, 99, 1);
+        lived(r.age("rest oda 1;"), 1, 0, 0, 0, 0);
     }
 
     private static void oddsRefused() {

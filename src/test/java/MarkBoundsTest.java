@@ -6,6 +6,7 @@ final class MarkBoundsTest {
         howMany();
         latestFirst();
         whatIsKept();
+        lessonsAreKept();
         nobodyIsKept();
         fullIsKept();
         whatIsNot();
@@ -52,6 +53,22 @@ final class MarkBoundsTest {
         rich(55, "no AGE").is("back()", 1).is("live(0)", 3).is("back()", 0).no("live(0)", 8);
         Run.dry(check, 55, "an AGE of blocks").age("loop 2;when long oda < 9;rest oda 3;end;end;stop;").is("mark()", 3)
             .age("when says eva;pay eva 1;end;fate ida;").is("back()", 2).is("live(0)", 6).is("child(2, 2)", 6).is("lived(3)", 0);
+    }
+
+    private static void lessonsAreKept() {
+        String school = "master ma;master mb;lesson p gives z takes 30 costs 99 by mb;lesson q gives a takes 1;lesson r gives b takes 2 costs 1 by ma needs p q;";
+        int[][] due = {{26, 30, 99, 1, 0}, {1, 1, 0, -1, 0}, {2, 2, 1, 0, 3}};
+        Run r = Run.of(check, 55, "LESSONS with all that is told of them", school).is("mark()", 1)
+            .school("lesson s gives c takes 5 costs 5;lesson t gives d takes 6 costs 6 needs s;lesson u gives e takes 7 costs 7;").is("back()", 0);
+        for (int l = 0; l < 3; l++) {
+            for (int what = 0; what < 5; what++) {
+                if (due[l][what] == -1) {
+                    r.no("lesson(" + l + ", " + what + ")", 8);
+                } else {
+                    r.is("lesson(" + l + ", " + what + ")", due[l][what]);
+                }
+            }
+        }
     }
 
     private static void nobodyIsKept() {

@@ -17,6 +17,8 @@ final class NameBoundsTest {
         toldOfNone();
         toldOfNobody();
         toldWithoutAWay();
+        toldOfTwelveWithoutAWay();
+        lessonsThatAreGone();
         daysAndCosts();
         mostWays();
         firstByNumbers();
@@ -41,14 +43,6 @@ final class NameBoundsTest {
 
     private static Run rich(int promise, String sentence) {
         return Run.rich(check, promise, sentence);
-    }
-
-    private static Run lay(Run r, int tray, long... numbers) {
-        r.go("tray(" + tray + ", 3, " + numbers.length + ")");
-        for (int p = 0; p < numbers.length; p++) {
-            r.go("write(" + tray + ", " + p + ", " + numbers[p] + ")");
-        }
-        return r;
     }
 
     /** So many LESSONS, all of which give one LETTER, each as dear as can be. */
@@ -77,7 +71,7 @@ final class NameBoundsTest {
         rich(36, "a MISSING one").no(3, "life(2, 1)");
         rich(36, "too few numbers").no(4, "life(0, 3)", "life(0, 12)");
         rich(36, "fewer than 1").no(5, "life(0, 0)", "life(0, -1)", "life(0, MIN)");
-        lay(rich(36, "no LESSON"), 2, 5, -1, 1L << 32, Long.MIN_VALUE, Long.MAX_VALUE).no(2, "life(2, 1)", "life(2, 5)").go("write(2, 0, -1)")
+        rich(36, "no LESSON").lay(2, 5, -1, 1L << 32, Long.MIN_VALUE, Long.MAX_VALUE).no(2, "life(2, 1)", "life(2, 5)").go("write(2, 0, -1)")
             .no("life(2, 1)", 2).go("write(2, 0, 4294967296)").no("life(2, 1)", 2).go("write(2, 0, 4)").is("life(2, 1)", 0);
         rich(36, "8: it can").no(8, "life(1, 1)", "life(1, 2)");
         rich(36, "it changes nothing").same("life(0, 1)", 0).same("life(0, 2)", 0);
@@ -89,25 +83,25 @@ final class NameBoundsTest {
         rich(36, "3 ahead of 4 and 5").no(3, "life(2, 99)", "life(2, 0)", "life(2, -1)");
         rich(36, "4 ahead of 5 and 2").no(4, "life(3, 4)", "life(3, 13)", "life(3, MAX)");
         rich(36, "5 ahead of 2").go("tray(2, 0, 13)", "write(2, 0, 99)").no("life(3, 0)", 5).no("life(2, 13)", 5).no("life(2, 12)", 2);
-        lay(rich(36, "2 ahead of a LESSON that can't be"), 2, 4, 4, 99).no("life(2, 3)", 2).is("life(2, 2)", 0);
-        lay(rich(36, "2 ahead of 8"), 2, 0, 1, -1).no("life(2, 3)", 2).no("life(2, 2)", 8);
+        rich(36, "2 ahead of a LESSON that can't be").lay(2, 4, 4, 99).no("life(2, 3)", 2).is("life(2, 2)", 0);
+        rich(36, "2 ahead of 8").lay(2, 0, 1, -1).no("life(2, 3)", 2).no("life(2, 2)", 8);
     }
 
     private static void lifeOfHowMany() {
         Run r = of(36, "1 to 12 numbers", chain(12));
-        lay(r, 0, 0, 1, 2, 3, 4, 5, 6, 7, 8, 9, 10, 11, 0).no(8, "life(0, 1)", "life(0, 12)").no(5, "life(0, 0)", "life(0, 13)").no("life(0, 14)", 4);
-        lay(of(36, "4 where the TRAY has 12", chain(12)), 0, 0, 1, 2, 3, 4, 5, 6, 7, 8, 9, 10, 11).no("life(0, 12)", 8).no("life(0, 13)", 4);
+        r.lay(0, 0, 1, 2, 3, 4, 5, 6, 7, 8, 9, 10, 11, 0).no(8, "life(0, 1)", "life(0, 12)").no(5, "life(0, 0)", "life(0, 13)").no("life(0, 14)", 4);
+        of(36, "4 where the TRAY has 12", chain(12)).lay(0, 0, 1, 2, 3, 4, 5, 6, 7, 8, 9, 10, 11).no("life(0, 12)", 8).no("life(0, 13)", 4);
         of(36, "5 where the TRAY has 60", chain(12)).go("tray(0, 0, 60)").no(5, "life(0, 13)", "life(0, 60)").no("life(0, 61)", 4)
             .is("life(0, 12)", 1);
     }
 
     private static void lifePlaces() {
-        lay(of(36, "the first place", chain(12)), 0, 1).is("life(0, 1)", 0);
-        lay(of(36, "the last of twelve: told twice", chain(12)), 0, 0, 1, 2, 3, 4, 5, 6, 7, 8, 9, 10, 0).is("life(0, 12)", 11).no("life(0, 11)", 8);
-        lay(of(36, "the last of twelve: a NEED not KNOWN", chain(12)), 0, 0, 1, 2, 3, 4, 5, 6, 7, 8, 9, 11, 10).is("life(0, 12)", 10);
-        lay(of(36, "from nothing on", chain(2) + "child kim;").go("learn(0, 0)"), 0, 1, 0).is("life(0, 2)", 0);
-        lay(of(36, "money not minded", same(2, "a") + "child kim;"), 0, 1, 0).no("life(0, 2)", 8);
-        lay(of(36, "numbers behind do not matter", chain(2)), 0, 0, 99).no("life(0, 1)", 8);
+        of(36, "the first place", chain(12)).lay(0, 1).is("life(0, 1)", 0);
+        of(36, "the last of twelve: told twice", chain(12)).lay(0, 0, 1, 2, 3, 4, 5, 6, 7, 8, 9, 10, 0).is("life(0, 12)", 11).no("life(0, 11)", 8);
+        of(36, "the last of twelve: a NEED not KNOWN", chain(12)).lay(0, 0, 1, 2, 3, 4, 5, 6, 7, 8, 9, 11, 10).is("life(0, 12)", 10);
+        of(36, "from nothing on", chain(2) + "child kim;").go("learn(0, 0)").lay(0, 1, 0).is("life(0, 2)", 0);
+        of(36, "money not minded", same(2, "a") + "child kim;").lay(0, 1, 0).no("life(0, 2)", 8);
+        of(36, "numbers behind do not matter", chain(2)).lay(0, 0, 99).no("life(0, 1)", 8);
     }
 
     // ---- told names
@@ -130,7 +124,7 @@ final class NameBoundsTest {
             rich(TOLD_BY[i], "1 ahead of 4 and 5").no(1, call + "(4, 99)", call + "(4, -1)");
             rich(TOLD_BY[i], "3 ahead of 4 and 5").no(3, call + "(2, 99)", call + "(2, -1)");
             rich(TOLD_BY[i], "4 ahead of 5").no(4, call + "(3, 13)", call + "(3, MAX)").go("write(3, 0, 27)").no(4, call + "(3, 4)", call + "(3, 13)");
-            lay(rich(TOLD_BY[i], "5 ahead of 8"), 2, 26, 0).no(call + "(2, 2)", 5);
+            rich(TOLD_BY[i], "5 ahead of 8").lay(2, 26, 0).no(call + "(2, 2)", 5);
         }
     }
 
@@ -138,8 +132,8 @@ final class NameBoundsTest {
         for (int i = 0; i < TOLD.length; i++) {
             Run r = of(TOLD_BY[i], "0 to 12 LETTERS", same(12, "a"));
             long[] due = {360, 12 * 99, FACTORIAL_OF_12, 12, 12};
-            lay(r, 0, 1, 1, 1, 1, 1, 1, 1, 1, 1, 1, 1, 1, 1).is(TOLD[i] + "(0, 12)", due[i]).no(TOLD[i] + "(0, 13)", 5).no(TOLD[i] + "(0, 14)", 4);
-            lay(r, 0, 1, 1, 1, 1, 1, 1, 1, 1, 1, 1, 1, 1).is(TOLD[i] + "(0, 12)", due[i]).no(TOLD[i] + "(0, 13)", 4).no(TOLD[i] + "(0, -1)", 5);
+            r.lay(0, 1, 1, 1, 1, 1, 1, 1, 1, 1, 1, 1, 1, 1).is(TOLD[i] + "(0, 12)", due[i]).no(TOLD[i] + "(0, 13)", 5).no(TOLD[i] + "(0, 14)", 4);
+            r.lay(0, 1, 1, 1, 1, 1, 1, 1, 1, 1, 1, 1, 1).is(TOLD[i] + "(0, 12)", due[i]).no(TOLD[i] + "(0, 13)", 4).no(TOLD[i] + "(0, -1)", 5);
             r.go("tray(0, 0, 60)").no(5, TOLD[i] + "(0, 60)", TOLD[i] + "(0, 13)", TOLD[i] + "(0, 12)", TOLD[i] + "(0, 1)").no(TOLD[i] + "(0, 61)", 4);
         }
     }
@@ -169,7 +163,7 @@ final class NameBoundsTest {
 
     private static void toldOfNobody() {
         for (int i = 0; i < TOLD.length; i++) {
-            Run r = lay(of(TOLD_BY[i], "a SCHOOL without LESSONS"), 0, 1);
+            Run r = of(TOLD_BY[i], "a SCHOOL without LESSONS").lay(0, 1);
             if (TOLD[i].equals("ways") || TOLD[i].equals("goes")) {
                 r.is(TOLD[i] + "(0, 1)", 0);
             } else {
@@ -180,9 +174,9 @@ final class NameBoundsTest {
 
     private static void toldWithoutAWay() {
         for (int i = 0; i < TOLD.length; i++) {
-            Run noSuch = lay(rich(TOLD_BY[i], "no WAY: no LESSON gives that"), 2, 14, 26);
-            Run needed = lay(rich(TOLD_BY[i], "no WAY: a NEED is not KNOWN"), 2, 14, 19);
-            Run twice = lay(rich(TOLD_BY[i], "no WAY: no LESSON twice"), 2, 1, 1, 1);
+            Run noSuch = rich(TOLD_BY[i], "no WAY: no LESSON gives that").lay(2, 14, 26);
+            Run needed = rich(TOLD_BY[i], "no WAY: a NEED is not KNOWN").lay(2, 14, 19);
+            Run twice = rich(TOLD_BY[i], "no WAY: no LESSON twice").lay(2, 1, 1, 1);
             if (TOLD[i].equals("ways")) {
                 noSuch.same("ways(2, 2)", 0);
                 needed.same("ways(2, 2)", 0);
@@ -199,25 +193,64 @@ final class NameBoundsTest {
         }
     }
 
+    private static void toldOfTwelveWithoutAWay() {
+        for (int i = 0; i < TOLD.length; i++) {
+            Run r = of(TOLD_BY[i], "no WAY by any of twelve LESSONS", same(12, "a")).lay(0, 1, 1, 2);
+            Run last = of(TOLD_BY[i], "no WAY to the twelfth LETTER", same(12, "a")).lay(0, 1, 1, 1, 1, 1, 1, 1, 1, 1, 1, 1, 2);
+            if (TOLD[i].equals("ways")) {
+                r.is("ways(0, 3)", 0);
+                last.is("ways(0, 12)", 0);
+            } else if (TOLD[i].equals("goes")) {
+                r.is("goes(0, 3)", 2);
+                last.is("goes(0, 12)", 11);
+            } else {
+                r.no(TOLD[i] + "(0, 3)", 8);
+                last.no(TOLD[i] + "(0, 12)", 8);
+            }
+        }
+    }
+
+    /** Three SCHOOLS, since one that was replaced may be used again. */
+    private static Run thirdSchool(int promise) {
+        return of(promise, "LESSONS of a SCHOOL ahead are none", same(12, "a")).school(same(12, "a")).school("lesson p gives b takes 1;child kim;");
+    }
+
+    private static void lessonsThatAreGone() {
+        for (int i = 0; i < TOLD.length; i++) {
+            Run r = thirdSchool(TOLD_BY[i]).lay(0, 2, 1);
+            if (TOLD[i].equals("ways") || TOLD[i].equals("goes")) {
+                r.is(TOLD[i] + "(0, 2)", TOLD[i].equals("ways") ? 0 : 1);
+            } else {
+                r.no(TOLD[i] + "(0, 2)", 8);
+            }
+        }
+        thirdSchool(36).lay(0, 0, 1).no("life(0, 2)", 2);
+        thirdSchool(44).is("orders(1)", 1).is("orders(2)", 0);
+        thirdSchool(45).is("reach(0)", 1).no("reach(1)", 2);
+        thirdSchool(46).fraction("sayable(1)", 1, 1).no("sayable(2)", 8);
+        thirdSchool(47).is("root()", 0);
+        thirdSchool(43).go("learn(0, 0)").is("lives(0)", 1);
+    }
+
     private static void daysAndCosts() {
         String school = "lesson p gives a takes 30 costs 0;lesson q gives a takes 1 costs 99;lesson r gives b takes 1 needs p;child kim gift 9;";
-        lay(of(37, "the fewest DAYS, without GIFTS", school), 0, 1, 2).is("soonest(0, 1)", 1).is("soonest(0, 2)", 31);
-        lay(of(38, "the least COSTS, money not minded", school), 0, 1, 1).is("cheapest(0, 1)", 0).is("cheapest(0, 2)", 99);
-        lay(of(37, "from nothing on, whatever is KNOWN", school).go("learn(0, 0)"), 0, 1, 2).is("soonest(0, 2)", 31);
-        lay(rich(37, "it changes nothing"), 2, 14, 1).same("soonest(2, 2)", 8);
-        lay(rich(38, "it changes nothing"), 2, 14, 1).same("cheapest(2, 2)", 10);
+        of(37, "the fewest DAYS, without GIFTS", school).lay(0, 1, 2).is("soonest(0, 1)", 1).is("soonest(0, 2)", 31);
+        of(38, "the least COSTS, money not minded", school).lay(0, 1, 1).is("cheapest(0, 1)", 0).is("cheapest(0, 2)", 99);
+        of(37, "from nothing on, whatever is KNOWN", school).go("learn(0, 0)").lay(0, 1, 2).is("soonest(0, 2)", 31);
+        rich(37, "it changes nothing").lay(2, 14, 1).same("soonest(2, 2)", 8);
+        rich(38, "it changes nothing").lay(2, 14, 1).same("cheapest(2, 2)", 10);
     }
 
     private static void mostWays() {
-        lay(of(39, "as many WAYS as can be", same(12, "z")), 0, 26, 26, 26, 26, 26, 26, 26, 26, 26, 26, 26, 26).is("ways(0, 12)", FACTORIAL_OF_12)
+        of(39, "as many WAYS as can be", same(12, "z")).lay(0, 26, 26, 26, 26, 26, 26, 26, 26, 26, 26, 26, 26).is("ways(0, 12)", FACTORIAL_OF_12)
             .is("ways(0, 11)", FACTORIAL_OF_12).is("ways(0, 1)", 12).is("ways(0, 0)", 1);
     }
 
     private static void firstByNumbers() {
         String school = "lesson p gives a takes 30;lesson q gives a takes 1;lesson r gives b takes 1 needs q;";
-        lay(of(40, "the FIRST by LESSONS' numbers", school), 0, 1, 1).is("first(0, 2)", 2).is("firstAt(0)", 0).is("firstAt(1)", 1);
-        lay(of(40, "the FIRST that goes to the end", school), 0, 1, 2).is("first(0, 2)", 2).is("firstAt(0)", 1).is("firstAt(1)", 2);
-        Run r = lay(of(40, "twelve LESSONS", same(12, "a")), 0, 1, 1, 1, 1, 1, 1, 1, 1, 1, 1, 1, 1).is("first(0, 12)", 12);
+        of(40, "the FIRST by LESSONS' numbers", school).lay(0, 1, 1).is("first(0, 2)", 2).is("firstAt(0)", 0).is("firstAt(1)", 1);
+        of(40, "the FIRST that goes to the end", school).lay(0, 1, 2).is("first(0, 2)", 2).is("firstAt(0)", 1).is("firstAt(1)", 2);
+        Run r = of(40, "twelve LESSONS", same(12, "a")).lay(0, 1, 1, 1, 1, 1, 1, 1, 1, 1, 1, 1, 1).is("first(0, 12)", 12);
         for (int k = 0; k < 12; k++) {
             r.is("firstAt(" + k + ")", k);
         }
@@ -237,12 +270,12 @@ final class NameBoundsTest {
     }
 
     private static void goesHowFar() {
-        Run r = lay(of(42, "none, some, all of its LETTERS", chain(12)), 0, 1, 2, 3, 4, 5, 6, 7, 8, 9, 10, 11, 12);
+        Run r = of(42, "none, some, all of its LETTERS", chain(12)).lay(0, 1, 2, 3, 4, 5, 6, 7, 8, 9, 10, 11, 12);
         for (int many = 0; many <= 12; many++) {
             r.is("goes(0, " + many + ")", many);
         }
         r.go("write(0, 11, 1)").is("goes(0, 12)", 11).go("write(0, 1, 26)").is("goes(0, 12)", 1).go("write(0, 0, 2)").is("goes(0, 12)", 0);
-        lay(rich(42, "it changes nothing"), 2, 14, 1).same("goes(2, 2)", 2);
+        rich(42, "it changes nothing").lay(2, 14, 1).same("goes(2, 2)", 2);
     }
 
     // ---- lives, orders, reach, what is sayable, the root

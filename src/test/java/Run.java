@@ -104,8 +104,7 @@ final class Run {
             + "lesson tri gives n takes 4 costs 2 by bob needs two;lesson qua gives a takes 2 needs one;"
             + "lesson fiv gives s takes 6 costs 1 needs two qua;child eva gift 2 purse 20;child ida purse 5;child oda;sounds 1;");
         r.go("learn(0, 1)", "mark()").age("learn ida two;rest eva 3;pay ida 1;");
-        r.go("learn(0, 0)", "rest(1, 7)", "mark()", "pay(2, 6)", "tray(0, 3, 2)", "write(0, 0, 3)", "write(0, 1, 2)");
-        r.go("tray(1, 3, 2)", "write(1, 0, 1)", "write(1, 1, 0)", "plans()");
+        r.go("learn(0, 0)", "rest(1, 7)", "mark()", "pay(2, 6)").lay(0, 3, 2).lay(1, 1, 0).go("plans()");
         r.go("tray(3, 1, 3)", "write(3, 0, 14)", "write(3, 1, 1)", "write(3, 2, 14)", "first(3, 3)", "live(5)", "sayable(3)");
         r.feed("  ?");
         r.ask("school(3)");
@@ -195,6 +194,15 @@ final class Run {
             if (!word.isEmpty() && word.length() <= 8 && !RESERVED.contains(word)) {
                 words.add(word);
             }
+        }
+        return this;
+    }
+
+    /** A TRAY of 64 bits with these numbers. */
+    Run lay(int tray, long... numbers) {
+        go("tray(" + tray + ", 3, " + numbers.length + ")");
+        for (int p = 0; p < numbers.length; p++) {
+            go("write(" + tray + ", " + p + ", " + numbers[p] + ")");
         }
         return this;
     }

@@ -19,6 +19,8 @@ final class SoundBoundsTest {
         rhymes();
         aparts();
         behinds();
+        lostLetters();
+        twelveLetters();
         Run.finish(check, 27, 28, 29, 30, 31, 32, 33, 34, 35);
     }
 
@@ -201,6 +203,32 @@ final class SoundBoundsTest {
         two(34, "the first place", "a", "b").is("apart(0, 1)", 0);
         two(34, "the last place", "abe", "abd").is("apart(0, 1)", 2).is("apart(1, 0)", 2);
         two(34, "behind the last place of one", "abcde", "cdabef").is("apart(0, 1)", 5).is("apart(1, 0)", 5);
+    }
+
+    /** What was lost is there no more, though it was ahead. */
+    private static void lostLetters() {
+        two(33, "unlike LETTERS were lost", "abe", "cda").go("lose(0, 2)", "lose(1, 2)").is("rhyme(0, 1)", 2);
+        two(34, "8: unlike LETTERS were lost", "abe", "cda").is("apart(0, 1)", 2).go("lose(0, 2)", "lose(1, 2)").no("apart(0, 1)", 8);
+        two(35, "8: unlike LESSONS were lost", "abe", "abf").is("behind(0, 1)", 2).go("lose(0, 2)", "lose(1, 2)").no("behind(0, 1)", 8);
+        named(28, "8: what was too much was lost", "aab", 1).is("stumbles(0)", 1).go("lose(0, 1)").no("stumbles(0)", 8);
+        named(32, "what was lost is none", "aab", 1).go("lose(0, 2)", "lose(0, 0)").is("vowels(0)", 1);
+    }
+
+    private static void twelveLetters() {
+        StringBuilder text = new StringBuilder();
+        for (int l = 0; l < 12; l++) {
+            text.append("lesson ").append((char) ('a' + l)).append(" gives ").append(l < 11 ? 'a' : 'b').append(" takes 1;");
+        }
+        for (int promise = 33; promise <= 35; promise++) {
+            Run r = of(promise, "two NAMES of twelve LETTERS", text + "child kim;child ann;");
+            for (int l = 0; l < 12; l++) {
+                r.go("learn(0, " + l + ")", "learn(1, " + (l < 10 ? l : 21 - l) + ")");
+            }
+            r.is("rhyme(0, 1)", 0).is("apart(0, 1)", 10).no("behind(0, 1)", 9);
+            r.go("lose(1, 10)", "learn(1, 11)").is("rhyme(0, 1)", 12).no("apart(0, 1)", 8).no("behind(0, 1)", 8);
+            r.go("lose(1, 0)", "lose(1, 9)", "lose(1, 9)", "learn(1, 0)", "learn(1, 10)", "learn(1, 11)").is("rhyme(0, 1)", 12).no("apart(0, 1)", 8)
+                .is("behind(0, 1)", 0);
+        }
     }
 
     private static void behinds() {
