@@ -57,15 +57,10 @@ final class Check {
 
     /** Feeds a text, filled with blanks to whole twenties; the text's length. */
     static int feed(LetterNames x, String text) {
-        int[] five = new int[5];
         for (int at = 0; at < text.length(); at += 20) {
-            for (int i = 0; i < 5; i++) {
-                int four = 0;
-                for (int j = 0; j < 4; j++) {
-                    int p = at + 4 * i + j;
-                    four = four << 8 | (p < text.length() ? text.charAt(p) & 255 : ' ');
-                }
-                five[i] = four;
+            int[] five = new int[5];
+            for (int i = 0; i < 20; i++) {
+                five[i / 4] = five[i / 4] << 8 | (at + i < text.length() ? text.charAt(at + i) & 255 : ' ');
             }
             x.feed(five[0], five[1], five[2], five[3], five[4]);
         }

@@ -241,6 +241,11 @@ final class Run {
         return this;
     }
 
+    /** What an object answers to a call as it is written, a boolean as 1 or 0. */
+    static long answer(LetterNames x, String text) {
+        return new Call(text).answerOf(x);
+    }
+
     // ---- what the calls share
 
     private long ask(String text) {
