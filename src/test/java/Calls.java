@@ -16,11 +16,18 @@ final class Calls {
     private static final int[] EDGES = {-1, -2, Integer.MIN_VALUE, Integer.MAX_VALUE, 4, 5, 12, 13, 60, 61, 99, 100, 900, 901, 9999, 10000};
 
     final Random random;
+    /** Whether calls, texts go as far as there can be LESSONS, CHILDREN, LETTERS, or stay among few of them. */
+    private final boolean wide;
     String name;
     Object[] arguments;
 
     Calls(long seed) {
+        this(seed, false);
+    }
+
+    Calls(long seed, boolean wide) {
         random = new Random(seed);
+        this.wide = wide;
     }
 
     void pick() {
@@ -54,12 +61,12 @@ final class Calls {
             case 't': return random.nextInt(4);
             case 's': return random.nextInt(4);
             case 'n': return random.nextInt(14);
-            case 'p': return random.nextInt(6);
+            case 'p': return random.nextInt(wide ? 13 : 6);
             case 'w': return random.nextInt(5);
-            case 'c': return random.nextInt(3);
-            case 'l': return random.nextInt(8);
+            case 'c': return random.nextInt(wide ? 4 : 3);
+            case 'l': return random.nextInt(wide ? 12 : 8);
             case 'd': return 1 + random.nextInt(99);
-            case 'm': return random.nextInt(7);
+            case 'm': return random.nextInt(wide ? 13 : 7);
             case 'r': return random.nextInt(9980);
             default: return 1 + random.nextInt(20);
         }
@@ -140,16 +147,40 @@ final class Calls {
         return text.toString();
     }
 
+    /** As many MASTERS, CHILDREN and nearly as many LESSONS as there may be, which NEED so much that they have few ORDERS. */
+    String fullSchoolText() {
+        StringBuilder text = new StringBuilder("master ma;master mb;master mc;master md;");
+        int lessons = 10 + random.nextInt(3);
+        int near = 1 + random.nextInt(3);
+        for (int l = 0; l < lessons; l++) {
+            text.append("lesson ").append(lessonName(l)).append(" gives ").append(letter()).append(" takes ").append(1 + random.nextInt(30));
+            if (random.nextInt(2) == 0) {
+                text.append(" costs ").append(random.nextInt(100));
+            }
+            if (random.nextInt(4) > 0) {
+                text.append(" by m").append((char) ('a' + random.nextInt(4)));
+            }
+            if (l > 0 && random.nextInt(8) > 0) {
+                text.append(" needs ").append(lessonName(Math.max(0, l - 1 - random.nextInt(near))));
+            }
+            text.append(';');
+        }
+        for (int c = 0; c < 4; c++) {
+            text.append("child ").append(childName(c)).append(" gift ").append(random.nextInt(10)).append(" purse ").append(random.nextInt(1000)).append(';');
+        }
+        return text.append("sounds ").append(1 + random.nextInt(random.nextBoolean() ? 3 : 9)).append(';').toString();
+    }
+
     String ageText(int lessons) {
         StringBuilder text = new StringBuilder();
         int depth = 0;
         int steps = random.nextInt(18);
         for (int s = 0; s < steps; s++) {
-            String child = childName(random.nextInt(2));
+            String child = childName(random.nextInt(wide ? 4 : 2));
             String lesson = lessonName(random.nextInt(Math.max(1, lessons)));
             switch (random.nextInt(9)) {
                 case 0: text.append("learn ").append(child).append(' ').append(lesson); break;
-                case 1: text.append("lose ").append(child).append(' ').append(random.nextInt(4)); break;
+                case 1: text.append("lose ").append(child).append(' ').append(random.nextInt(wide ? 12 : 4)); break;
                 case 2: text.append("rest ").append(child).append(' ').append(1 + random.nextInt(99)); break;
                 case 3: text.append("pay ").append(child).append(' ').append(1 + random.nextInt(99)); break;
                 case 4:
@@ -158,7 +189,7 @@ final class Calls {
                     break;
                 case 5:
                     text.append("when ").append(random.nextBoolean() ? "says " + child : random.nextBoolean() ? "knows " + child + ' ' + lesson
-                        : "long " + child + "<>=".charAt(random.nextInt(3)) + random.nextInt(6));
+                        : "long " + child + "<>=".charAt(random.nextInt(3)) + random.nextInt(wide ? 13 : 6));
                     depth++;
                     break;
                 case 6: text.append(random.nextInt(4) == 0 ? "stop" : "fate " + child); break;

@@ -190,6 +190,10 @@ final class Model {
         return world;
     }
 
+    int trayLength(int t) {
+        return trays[t] == null ? 0 : trays[t].length;
+    }
+
     int tapeLength() {
         return tape.length();
     }

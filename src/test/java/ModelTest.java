@@ -4,11 +4,15 @@ import java.util.TreeMap;
 /** All promises at once: the class and the model are asked the same, and must answer the same. */
 final class ModelTest {
     private static final int RUNS = 2500;
+    /** One run in so many is of a full SCHOOL. */
+    private static final int FULL = 6;
+    private static final int MOST_ORDERS = 3000;
     private static final int TURNS = 120;
     private static final Map<String, Integer> seen = new TreeMap<>();
     private static long asked;
 
     private final int seed;
+    private final boolean full;
     private final Calls calls;
     private final LetterNames x = new LetterNames();
     private final Model y = new Model();
@@ -16,7 +20,8 @@ final class ModelTest {
 
     private ModelTest(int seed) {
         this.seed = seed;
-        calls = new Calls(seed);
+        full = seed % FULL == 1;
+        calls = new Calls(seed, full);
     }
 
     public static void main(String[] args) throws Exception {
@@ -31,18 +36,20 @@ final class ModelTest {
     }
 
     private void run() throws Exception {
-        read("school", calls.schoolText(seed % 50 == 0 ? 8 : 6));
+        read("school", full ? fullSchool() : calls.schoolText(seed % 50 == 0 ? 8 : 6));
         read("age", calls.ageText(y.world().lessons.size()));
         for (int turn = 0; turn < TURNS; turn++) {
             int what = calls.random.nextInt(100);
             if (what < 2) {
-                String told = calls.schoolText(6);
+                String told = full ? fullSchool() : calls.schoolText(6);
                 read("school", calls.random.nextInt(3) > 0 ? calls.spoilt(told) : told);
             } else if (what < 6) {
                 String told = calls.ageText(y.world().lessons.size());
                 read("age", calls.random.nextInt(3) == 0 ? calls.spoilt(told) : told);
             } else if (what < 12) {
-                fill(calls.random.nextInt(4), calls.random.nextBoolean());
+                int tray = calls.random.nextInt(4);
+                fill(tray, calls.random.nextBoolean());
+                tellOfTray(tray);
             } else if (what < 14) {
                 for (int tray = 0; tray < 4; tray++) {
                     fill(tray, false);
@@ -51,12 +58,32 @@ final class ModelTest {
                 tellOfIt();
             } else if (what < 40) {
                 learnSome();
+            } else if (what < 42) {
+                tellOfNames();
             } else {
                 calls.pick();
                 same();
                 tellOfIt();
             }
         }
+    }
+
+    /** The model tries all ORDERS out, so there may not be too many of them. */
+    private String fullSchool() {
+        for (int tries = 0; tries < 1000; tries++) {
+            String told = calls.fullSchoolText();
+            LetterNames z = new LetterNames();
+            long most = told.length() <= 900 ? 0L : Long.MAX_VALUE;
+            if (most == 0L && Check.school(z, told) > 0) {
+                for (int n = 0; n <= 12; n++) {
+                    most = Math.max(most, z.orders(n));
+                }
+            }
+            if (most > 0L && most <= MOST_ORDERS) {
+                return told;
+            }
+        }
+        return calls.schoolText(6);
     }
 
     /** Feeds a text behind an empty tape and has it read. */
@@ -81,7 +108,7 @@ final class ModelTest {
         int lessons = y.world().lessons.size();
         int children = y.world().pupils.size();
         int known = tray < children && !letters ? (int) y.child(tray, 4) : 0;
-        int many = calls.random.nextInt(calls.random.nextInt(8) == 0 ? 14 : 6);
+        int many = calls.random.nextInt(full || calls.random.nextInt(8) == 0 ? 14 : 6);
         ask("tray", tray, calls.random.nextInt(4), many);
         for (int p = 0; p < many && lessons > 0; p++) {
             int lesson = calls.random.nextInt(lessons);
@@ -114,15 +141,41 @@ final class ModelTest {
         }
     }
 
+    /** What is in a TRAY, taken for a life and for a told name. */
+    private void tellOfTray(int tray) throws Exception {
+        int many = y.trayLength(tray);
+        for (String call : new String[] {"life", "soonest", "cheapest", "ways", "goes", "first"}) {
+            ask(call, tray, many);
+        }
+        tellOfIt();
+    }
+
+    private void tellOfNames() throws Exception {
+        for (int c = 0; c < 4; c++) {
+            for (String call : new String[] {"said", "stumbles", "drop", "firm", "weak", "vowels", "lives", "choice"}) {
+                ask(call, c);
+            }
+            for (int other = 0; other < 4; other++) {
+                ask("rhyme", c, other);
+                ask("apart", c, other);
+                ask("behind", c, other);
+            }
+            for (int l = 0; l < y.world().lessons.size(); l++) {
+                ask("opens", c, l);
+                ask("takes", c, l);
+            }
+        }
+    }
+
     private void tellOfIt() throws Exception {
         if (calls.name.equals("first")) {
-            for (int k = 0; k < 6; k++) {
+            for (int k = 0; k < (full ? 13 : 6); k++) {
                 ask("firstAt", k);
             }
         } else if (calls.name.equals("plans")) {
             for (int c = 0; c < 4; c++) {
                 ask("waited", c);
-                for (int k = 0; k < 4; k++) {
+                for (int k = 0; k < (full ? 13 : 4); k++) {
                     ask("began", c, k);
                 }
             }
@@ -141,7 +194,7 @@ final class ModelTest {
             for (int what = 0; what < 5; what++) {
                 ask("child", c, what);
             }
-            for (int p = 0; p < 5; p++) {
+            for (int p = 0; p < (full ? 13 : 5); p++) {
                 ask("letter", c, p, 1);
             }
         }
