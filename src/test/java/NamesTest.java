@@ -19,6 +19,7 @@ final class NamesTest {
         childrensLives();
         orders();
         largest();
+        largestSayable();
         reaches();
         sayables();
         roots();
@@ -213,6 +214,50 @@ final class NamesTest {
         check.fraction("sayable(9)", y, y.sayable(9), 1, 1);
         check.fraction("sayable(10)", y, y.sayable(10), 0, 1);
         check.fraction("sayable(12)", y, y.sayable(12), 0, 1);
+    }
+
+    /** Twelve LESSONS without NEEDS: a row is a pattern of the two kinds, filled with LESSONS of each in any order. */
+    private static void largestSayable() {
+        for (int sounds = 1; sounds <= 9; sounds++) {
+            for (int vowels = 0; vowels <= 12; vowels++) {
+                StringBuilder text = new StringBuilder("sounds " + sounds + ";");
+                for (int l = 0; l < 12; l++) {
+                    text.append("lesson ").append((char) ('a' + l)).append(" gives ").append("aeioubcdfghz".charAt(l < vowels ? l % 5 : 5 + l % 7)).append(" takes 1;");
+                }
+                LetterNames x = Check.of(text.toString());
+                for (int n = 1; n <= 12; n++) {
+                    long good = 0;
+                    for (int pattern = 0; pattern < 1 << n; pattern++) {
+                        int ofVowels = Integer.bitCount(pattern);
+                        good += longestRun(pattern, n) > sounds ? 0 : rows(vowels, ofVowels) * rows(12 - vowels, n - ofVowels);
+                    }
+                    check.agreed("sayable(" + n + ") of " + text, x, x.sayable(n));
+                    check.due("its part of all orders, of " + text, x.top() * (rows(12, n) / x.bottom()), good);
+                    check.due("it is a part of them, of " + text, rows(12, n) % x.bottom(), 0);
+                }
+            }
+        }
+    }
+
+    /** How many rows of so many of the things there are. */
+    private static long rows(int things, int many) {
+        long rows = 1;
+        for (int i = 0; i < many; i++) {
+            rows *= Math.max(0, things - i);
+        }
+        return rows;
+    }
+
+    private static int longestRun(int pattern, int n) {
+        int longest = 0;
+        for (int from = 0; from < n; from++) {
+            int to = from;
+            while (to < n && (pattern >> to & 1) == (pattern >> from & 1)) {
+                to++;
+            }
+            longest = Math.max(longest, to - from);
+        }
+        return longest;
     }
 
     private static void reaches() {
