@@ -208,6 +208,9 @@ final class TrayBoundsTest {
         rich(8, "all numbers").is("pour(0, 0, 1, 0, 2)", 1).is("read(1, 0)", 3).is("read(1, 1)", 2).is("read(0, 0)", 3);
         rich(8, "the last number to the last place").is("pour(0, 1, 1, 1, 1)", 1).is("read(1, 0)", 1).is("read(1, 1)", 2);
         rich(8, "no numbers").same("pour(0, 0, 1, 0, 0)", 1).same("pour(0, 1, 1, 1, 0)", 1);
+        // The document leaves it open whether such a place must be there; NOTES.md says what was taken.
+        rich(8, "no numbers, just behind the last place").same("pour(0, 2, 1, 2, 0)", 1).no(4, "pour(0, 3, 1, 0, 0)", "pour(0, 0, 1, 3, 0)");
+        of(8, "no numbers of an empty TRAY").go("tray(0, 0, 0)").same("pour(0, 0, 0, 0, 0)", 1).no(4, "pour(0, 1, 0, 0, 0)", "pour(0, 0, 0, 0, 1)");
         of(8, "60 numbers").go("tray(0, 3, 60)", "tray(1, 3, 60)", "write(0, 59, 7)").is("pour(0, 0, 1, 0, 60)", 1).is("read(1, 59)", 7)
             .no(4, "pour(0, 0, 1, 0, 61)", "pour(0, 1, 1, 0, 60)", "pour(0, 0, 1, 1, 60)");
     }
